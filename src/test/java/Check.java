@@ -58,8 +58,15 @@ final class Check {
         try {
             return String.valueOf(call.answer());
         } catch (RuntimeException e) {
-            return "throws." + e.getClass().getSimpleName();
+            String by = isThrownByLibrary(e) ? " by the library" : "";
+            return "throws." + e.getClass().getSimpleName() + by;
         }
+    }
+
+    /** A list throws the very IndexOutOfBoundsException that the document names: only its thrower tells it apart. */
+    private static boolean isThrownByLibrary(RuntimeException e) {
+        StackTraceElement[] trace = e.getStackTrace();
+        return trace.length == 0 || trace[0].getClassName().startsWith("j");
     }
 
     private static List<String> lookAtRooms(EchoChamber x) {
