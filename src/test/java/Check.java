@@ -12,7 +12,8 @@ final class Check {
     }
 
     private static final List<Function<EchoChamber, List<String>>> LOOKS = List.of(
-            Check::lookAtRooms, Check::lookAtAnswers, Check::lookAtFilters, Check::lookAtBookings);
+            Check::lookAtRooms, Check::lookAtAnswers, Check::lookAtPlaces, Check::lookAtFilters,
+            Check::lookAtProducts, Check::lookAtBookings, Check::lookAtHours);
 
     private final String title;
     private int asked;
@@ -105,6 +106,16 @@ final class Check {
         return seen;
     }
 
+    private static List<String> lookAtPlaces(EchoChamber x) {
+        List<String> seen = new ArrayList<>();
+        for (int i = 0; i < 40; i++) {
+            int room = i / 10;
+            int place = i % 10;
+            seen.add(told(() -> x.latest(room, place, x.curtains(room), x.seats(room), x.areOpen(room))));
+        }
+        return seen;
+    }
+
     private static List<String> lookAtFilters(EchoChamber x) {
         List<String> seen = new ArrayList<>();
         seen.add(told(() -> x.usable()));
@@ -125,6 +136,20 @@ final class Check {
         return seen;
     }
 
+    private static List<String> lookAtProducts(EchoChamber x) {
+        List<String> seen = new ArrayList<>();
+        for (int i = 0; i < 20; i++) {
+            int filter = i;
+            seen.add(told(() -> x.isChecked(filter)));
+            seen.add(told(() -> x.rightSamples(filter, 0)));
+            for (int k = 0; k < 6; k++) {
+                int index = k;
+                seen.add(told(() -> x.product(filter, 0, index)));
+            }
+        }
+        return seen;
+    }
+
     private static List<String> lookAtBookings(EchoChamber x) {
         List<String> seen = new ArrayList<>();
         for (int i = 0; i < 4; i++) {
@@ -140,6 +165,21 @@ final class Check {
             int booking = i;
             seen.add(told(() -> x.cancel(booking)));
         }
+        return seen;
+    }
+
+    private static List<String> lookAtHours(EchoChamber x) {
+        List<String> seen = new ArrayList<>();
+        for (int i = 0; i < 20; i++) {
+            seen.add(told(() -> x.pass(1)));
+            seen.add(told(() -> x.hour()));
+            seen.add(told(() -> x.changes(0)));
+            seen.add(told(() -> x.seats(0)));
+            seen.add(told(() -> x.nextBooking(0)));
+            seen.add(told(() -> x.seats(1)));
+            seen.add(told(() -> x.nextBooking(1)));
+        }
+        seen.add(told(() -> x.age(0)));
         return seen;
     }
 }
