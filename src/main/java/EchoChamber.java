@@ -118,7 +118,8 @@ public final class EchoChamber {
         Room asked = roomAt(room);
         int states = 0;
         for (int i = 0; i < answerList.size(); i++) {
-            if (answerList.get(i).room == asked && isFirstOfItsState(i)) {
+            Answer answer = answerList.get(i);
+            if (answer.room == asked && isFirstOfItsState(answer)) {
                 states++;
             }
         }
@@ -353,15 +354,15 @@ public final class EchoChamber {
         return null;
     }
 
-    /** Whether no answer ahead of this one is for the same state of its room; the index is one of an answer. */
-    private boolean isFirstOfItsState(int index) {
-        Answer answer = answerList.get(index);
-        for (int i = 0; i < index; i++) {
-            if (answerList.get(i).isForState(answer.room, answer.state)) {
-                return false;
+    /** Whether no answer ahead of this one is for the same state of its room. */
+    private boolean isFirstOfItsState(Answer answer) {
+        for (int i = 0; i < answerList.size(); i++) {
+            Answer other = answerList.get(i);
+            if (other.isForState(answer.room, answer.state)) {
+                return other.number == answer.number;
             }
         }
-        return true;
+        return false;
     }
 
     private char firstBar(Filter filter) {

@@ -15,12 +15,28 @@ final class Check {
             Check::lookAtRooms, Check::lookAtAnswers, Check::lookAtPlaces, Check::lookAtFilters,
             Check::lookAtProducts, Check::lookAtBookings, Check::lookAtHours);
 
+    /** Far more than a test takes, so that only a call that does not end takes longer. */
+    private static final long MOST_MILLISECONDS = 300_000;
+
     private final String title;
     private int asked;
     private int wrong;
 
     Check(String title) {
         this.title = title;
+        Thread watch = new Thread(this::failIfItDoesNotEnd);
+        watch.setDaemon(true);
+        watch.start();
+    }
+
+    private void failIfItDoesNotEnd() {
+        try {
+            Thread.sleep(MOST_MILLISECONDS);
+        } catch (InterruptedException e) {
+            return;
+        }
+        System.out.println(title + ": a call does not end");
+        Runtime.getRuntime().halt(1);
     }
 
     void due(String what, Object got, Object want) {

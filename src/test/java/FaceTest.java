@@ -25,6 +25,7 @@ public final class FaceTest {
         face();
         nothingElseIsSeen();
         source();
+        sections();
         check.end();
     }
 
@@ -83,5 +84,29 @@ public final class FaceTest {
         for (String pattern : RULED_OUT) {
             check.due("the source has " + pattern, Pattern.compile(pattern).matcher(source).find(), false);
         }
+    }
+
+    /** Ahead of its calls the class says what they are of, as the document wants it, and they stand in its order. */
+    private static void sections() throws IOException {
+        String source = Files.readString(SOURCE);
+        Matcher sections = Pattern.compile("Ahead of the calls ([^.]*) the interface says: ([^.]*)\\.")
+                .matcher(Files.readString(DOCUMENT));
+        int seen = 0;
+        int calls = 0;
+        while (sections.find()) {
+            String title = sections.group(2).substring(0, 1).toUpperCase() + sections.group(2).substring(1);
+            seen = inOrder(source, "    // " + title + "\n", seen);
+            for (String name : sections.group(1).split(", ")) {
+                seen = inOrder(source, " " + name.replace("`", "") + "(", seen);
+                calls++;
+            }
+        }
+        check.due("calls in sections", calls, 30);
+    }
+
+    private static int inOrder(String source, String what, int after) {
+        int place = source.indexOf(what, after);
+        check.due("in its order: " + what.strip(), place > after, true);
+        return Math.max(place, after);
     }
 }

@@ -1,6 +1,6 @@
 /** The edges of promises 14 to 24. */
 public final class FilterEdgesTest {
-    private static final Edges edges = new Edges(new Check("FilterEdgesTest"));
+    private static final ByPromise edges = new ByPromise(new Check("FilterEdgesTest"));
 
     public static void main(String[] args) {
         edges.runAll(FilterEdgesTest.class, 14, 24);
@@ -38,6 +38,7 @@ public final class FilterEdgesTest {
 
     // Promise 14: makeFilter
 
+    @Says("Throws `IndexOutOfBoundsException` if there is no such answer")
     static void p14_noSuchAnswer() {
         edges.noSuchAnswer((x, answer) -> x.makeFilter(answer));
     }
@@ -48,6 +49,10 @@ public final class FilterEdgesTest {
         edges.due("of the last", x.answerOf(x.makeFilter(39)), 39);
     }
 
+    @Says({
+        "Makes a filter from an answer.",
+        "Returns the number of the filter.",
+        "At most 20 filters have the numbers 0 to n - 1 in the order in .."})
     static void p14_twentyFiltersAreMade() {
         EchoChamber x = Scenes.filters(0);
         for (int i = 0; i < 20; i++) {
@@ -55,12 +60,17 @@ public final class FilterEdgesTest {
         }
     }
 
+    @Says({
+        "Throws `IllegalStateException` if there are 20 filters",
+        "At most 20 filters have the numbers 0 to n - 1 in the order in .."})
     static void p14_oneMoreThanTwentyIsRefused() {
-        edges.refused(Edges.STATE, Scenes::filters, 20, (x, answer) -> x.makeFilter(answer), 0, 1);
+        edges.refused(ByPromise.STATE, Scenes::filters, 20, (x, answer) -> x.makeFilter(answer), 0, 1);
     }
 
+    @Says("If several exceptions apply, the one that is listed first is thrown.")
     static void p14_noAnswerAheadOfTwentyFilters() {
-        edges.refused(Edges.NO_SUCH, Scenes::filters, 20, (x, answer) -> x.makeFilter(answer), Edges.outside(0, 1));
+        edges.refused(ByPromise.NO_SUCH, Scenes::filters, 20, (x, answer) -> x.makeFilter(answer),
+                ByPromise.outside(0, 1));
     }
 
     static void p14_aFilterIsMadeFromAnAnswerThatBarsItsUse() {
@@ -73,6 +83,7 @@ public final class FilterEdgesTest {
 
     // Promise 15: answerOf
 
+    @Says("Throws `IndexOutOfBoundsException` if there is no such filter")
     static void p15_noSuchFilter() {
         edges.noSuchFilter((x, filter) -> x.answerOf(filter));
     }
@@ -85,6 +96,7 @@ public final class FilterEdgesTest {
 
     // Promise 16: tap
 
+    @Says("Throws `IndexOutOfBoundsException` if there is no such filter")
     static void p16_noSuchFilter() {
         edges.noSuchFilter((x, filter) -> x.tap(filter, 0));
     }
@@ -95,6 +107,9 @@ public final class FilterEdgesTest {
         edges.due("last tap", x.tap(19, 5), -486L);
     }
 
+    @Says({
+        "Returns a tap of a filter.",
+        "Returns the tap."})
     static void p16_theIndexes0To5() {
         long[] taps = {1, -2, 5, -12, 29, -70};
         for (int index = 0; index < 6; index++) {
@@ -102,14 +117,18 @@ public final class FilterEdgesTest {
         }
     }
 
+    @Says({
+        "Throws `NoSuchElementException` if there is no such index",
+        "A filter is made from an answer and has 6 taps: the first tap is .."})
     static void p16_noSuchIndex() {
-        edges.refused(Edges.NONE, Scenes::filters, 20, (x, index) -> x.tap(19, index), Edges.outside(0, 5));
+        edges.refused(ByPromise.NONE, Scenes::filters, 20, (x, index) -> x.tap(19, index), ByPromise.outside(0, 5));
     }
 
+    @Says("If several exceptions apply, the one that is listed first is thrown.")
     static void p16_noFilterAheadOfNoIndex() {
-        edges.refused(Edges.NO_SUCH, Scenes::filters, 0, (x, index) -> x.tap(0, index), Edges.outside(0, 5));
-        edges.refused(Edges.NO_SUCH, Scenes::filters, 20, (x, index) -> x.tap(20, index), Edges.outside(0, 5));
-        edges.refused(Edges.NO_SUCH, Scenes::filters, 20, (x, index) -> x.tap(-1, index), Edges.outside(0, 5));
+        edges.refused(ByPromise.NO_SUCH, Scenes::filters, 0, (x, index) -> x.tap(0, index), ByPromise.outside(0, 5));
+        edges.refused(ByPromise.NO_SUCH, Scenes::filters, 20, (x, index) -> x.tap(20, index), ByPromise.outside(0, 5));
+        edges.refused(ByPromise.NO_SUCH, Scenes::filters, 20, (x, index) -> x.tap(-1, index), ByPromise.outside(0, 5));
     }
 
     static void p16_theTapsOfTheGreatestSamples() {
@@ -135,6 +154,7 @@ public final class FilterEdgesTest {
 
     // Promise 17: bar
 
+    @Says("Throws `IndexOutOfBoundsException` if there is no such filter")
     static void p17_noSuchFilter() {
         edges.noSuchFilter((x, filter) -> x.bar(filter));
     }
@@ -146,6 +166,7 @@ public final class FilterEdgesTest {
         edges.due("filter 19", x.bar(19), 'l');
     }
 
+    @Says("The bars of a use of a filter are, in this order: 's' if its room ..")
     static void p17_anAgeOfTheLimitIsNoBar() {
         EchoChamber x = Scenes.filters(1);
         x.cancel(0);
@@ -154,6 +175,7 @@ public final class FilterEdgesTest {
         edges.due("bar", x.bar(0), '-');
     }
 
+    @Says("The bars of a use of a filter are, in this order: 's' if its room ..")
     static void p17_anAgeAboveTheLimitIsABar() {
         EchoChamber x = Scenes.filters(1);
         x.cancel(0);
@@ -175,6 +197,7 @@ public final class FilterEdgesTest {
         edges.due("age 1000, limit 999", x.bar(0), 'o');
     }
 
+    @Says("The bars of a use of a filter are, in this order: 's' if its room ..")
     static void p17_onePartOfTheStateIsABar() {
         for (int parts = 0; parts < 8; parts++) {
             EchoChamber x = Scenes.filters(1);
@@ -195,6 +218,7 @@ public final class FilterEdgesTest {
         edges.due("room 1 changes", x.bar(0), 's');
     }
 
+    @Says("The bars of a use of a filter are, in this order: 's' if its room ..")
     static void p17_aLaterAnswerOfAnotherRoomPlaceOrStateIsNoBar() {
         EchoChamber x = undoing(1, 0, 0, 0);
         x.addRoom();
@@ -208,6 +232,10 @@ public final class FilterEdgesTest {
         edges.due("bar of the very one", x.bar(0), 'l');
     }
 
+    @Says({
+        "Returns the first bar of a use of a filter.",
+        "Returns 's', 'l' or 'o', or '-' if nothing bars it.",
+        "The bars of a use of a filter are, in this order: 's' if its room .."})
     static void p17_theStateAheadOfTheLatestAheadOfTheAge() {
         for (int bars = 0; bars < 8; bars++) {
             EchoChamber x = undoing(1, 0, 0, 0);
@@ -225,6 +253,7 @@ public final class FilterEdgesTest {
 
     // Promise 18: use
 
+    @Says("Throws `IndexOutOfBoundsException` if there is no such filter")
     static void p18_noSuchFilter() {
         edges.noSuchFilter((x, filter) -> x.use(filter, 0));
     }
@@ -236,26 +265,31 @@ public final class FilterEdgesTest {
         edges.due("the other's inputs", x.inputs(18), 1);
     }
 
+    @Says("Throws `IllegalArgumentException` if the input is out of range")
     static void p18_inputsFromMinus999To999AreTaken() {
         edges.due("-999", undoing(1, 0, 0, 0).use(0, -999), -999L);
         edges.due("999", undoing(1, 0, 0, 0).use(0, 999), 999L);
         edges.due("0", undoing(1, 0, 0, 0).use(0, 0), 0L);
     }
 
+    @Says("Throws `IllegalArgumentException` if the input is out of range")
     static void p18_otherInputsAreRefused() {
-        edges.refused(Edges.BAD, Scenes::filters, 20, (x, input) -> x.use(19, input), Edges.outside(-999, 999));
+        edges.refused(ByPromise.BAD, Scenes::filters, 20, (x, input) -> x.use(19, input), ByPromise.outside(-999, 999));
     }
 
+    @Says("Throws `UnsupportedOperationException` if a use is barred")
     static void p18_aUseInAnotherStateIsRefused() {
-        edges.refused(Edges.BARRED, FilterEdgesTest::inOtherState, 1, (x, input) -> x.use(0, input), -999, 0, 999);
+        edges.refused(ByPromise.BARRED, FilterEdgesTest::inOtherState, 1, (x, input) -> x.use(0, input), -999, 0, 999);
     }
 
+    @Says("Throws `UnsupportedOperationException` if a use is barred")
     static void p18_aUseOfAnAnswerThatIsNotTheLatestIsRefused() {
-        edges.refused(Edges.BARRED, FilterEdgesTest::notTheLatest, 1, (x, input) -> x.use(0, input), -999, 0, 999);
+        edges.refused(ByPromise.BARRED, FilterEdgesTest::notTheLatest, 1, (x, input) -> x.use(0, input), -999, 0, 999);
     }
 
+    @Says("Throws `UnsupportedOperationException` if a use is barred")
     static void p18_aUseOfAnAnswerThatIsTooOldIsRefused() {
-        edges.refused(Edges.BARRED, FilterEdgesTest::tooOld, 1, (x, input) -> x.use(0, input), -999, 0, 999);
+        edges.refused(ByPromise.BARRED, FilterEdgesTest::tooOld, 1, (x, input) -> x.use(0, input), -999, 0, 999);
     }
 
     static void p18_aUseAtTheLimitIsNotRefused() {
@@ -264,25 +298,32 @@ public final class FilterEdgesTest {
         edges.due("gives", x.use(0, 1), 1L);
     }
 
+    @Says("If several exceptions apply, the one that is listed first is thrown.")
     static void p18_noFilterAheadOfABadInput() {
-        edges.refused(Edges.NO_SUCH, Scenes::filters, 0, (x, input) -> x.use(0, input), -1000, 1000);
-        edges.refused(Edges.NO_SUCH, Scenes::filters, 20, (x, input) -> x.use(20, input), -1000, 1000);
-        edges.refused(Edges.NO_SUCH, Scenes::filters, 20, (x, input) -> x.use(-1, input), -1000, 1000);
+        edges.refused(ByPromise.NO_SUCH, Scenes::filters, 0, (x, input) -> x.use(0, input), -1000, 1000);
+        edges.refused(ByPromise.NO_SUCH, Scenes::filters, 20, (x, input) -> x.use(20, input), -1000, 1000);
+        edges.refused(ByPromise.NO_SUCH, Scenes::filters, 20, (x, input) -> x.use(-1, input), -1000, 1000);
     }
 
+    @Says("If several exceptions apply, the one that is listed first is thrown.")
     static void p18_aBadInputAheadOfABar() {
-        int[] inputs = Edges.outside(-999, 999);
-        edges.refused(Edges.BAD, FilterEdgesTest::inOtherState, 1, (x, input) -> x.use(0, input), inputs);
-        edges.refused(Edges.BAD, FilterEdgesTest::notTheLatest, 1, (x, input) -> x.use(0, input), inputs);
-        edges.refused(Edges.BAD, FilterEdgesTest::tooOld, 1, (x, input) -> x.use(0, input), inputs);
+        int[] inputs = ByPromise.outside(-999, 999);
+        edges.refused(ByPromise.BAD, FilterEdgesTest::inOtherState, 1, (x, input) -> x.use(0, input), inputs);
+        edges.refused(ByPromise.BAD, FilterEdgesTest::notTheLatest, 1, (x, input) -> x.use(0, input), inputs);
+        edges.refused(ByPromise.BAD, FilterEdgesTest::tooOld, 1, (x, input) -> x.use(0, input), inputs);
     }
 
+    @Says("A filter that is used gets an input: the inputs that it has got, ..")
     static void p18_withoutAPastThereAreZeros() {
         EchoChamber x = undoing(1, 2, -1, 0);
         edges.due("first", x.use(0, 1), 1L);
         edges.due("second", x.use(0, 1), -1L);
     }
 
+    @Says({
+        "Uses a filter.",
+        "Returns what it gives.",
+        "A filter that is used gets an input: the inputs that it has got, .."})
     static void p18_sixInputsCountAndTheSeventhNoMore() {
         EchoChamber x = undoing(1, 2, -1, 0);
         long[] given = {1, -2, 5, -12, 29, -70, 0, 0};
@@ -313,10 +354,12 @@ public final class FilterEdgesTest {
 
     // Promise 19: inputs
 
+    @Says("Throws `IndexOutOfBoundsException` if there is no such filter")
     static void p19_noSuchFilter() {
         edges.noSuchFilter((x, filter) -> x.inputs(filter));
     }
 
+    @Says("Returns how many inputs a filter has got.")
     static void p19_theLastOfTwentyFilters() {
         EchoChamber x = Scenes.filters(20);
         x.use(19, 1);
@@ -324,6 +367,9 @@ public final class FilterEdgesTest {
         edges.due("filter 0", x.inputs(0), 1);
     }
 
+    @Says({
+        "Returns how many inputs a filter has got.",
+        "Returns the number of inputs."})
     static void p19_noneAtFirstAndMoreThanThereAreTaps() {
         EchoChamber x = undoing(1, 2, -1, 0);
         for (int i = 0; i < 20; i++) {
@@ -341,34 +387,46 @@ public final class FilterEdgesTest {
 
     // Promise 20: product
 
+    @Says("Throws `IndexOutOfBoundsException` if there is no such filter or answer")
     static void p20_noSuchFilter() {
         edges.noSuchFilter((x, filter) -> x.product(filter, 0, 0));
     }
 
+    @Says("Throws `IndexOutOfBoundsException` if there is no such filter or answer")
     static void p20_noSuchAnswer() {
         for (int answers : new int[] {1, 39, 40}) {
-            edges.refused(Edges.NO_SUCH, Scenes::answers, answers, (x, answer) -> x.product(0, answer, 0),
-                    Edges.outside(0, answers - 1));
+            edges.refused(ByPromise.NO_SUCH, Scenes::answers, answers, (x, answer) -> x.product(0, answer, 0),
+                    ByPromise.outside(0, answers - 1));
         }
     }
 
+    @Says({
+        "Throws `NoSuchElementException` if there is no such index",
+        "The product row of a filter and an answer has 6 samples: the .."})
     static void p20_noSuchIndex() {
-        edges.refused(Edges.NONE, Scenes::filters, 20, (x, index) -> x.product(19, 1, index), Edges.outside(0, 5));
+        edges.refused(ByPromise.NONE, Scenes::filters, 20, (x, index) -> x.product(19, 1, index),
+                ByPromise.outside(0, 5));
     }
 
+    @Says("If several exceptions apply, the one that is listed first is thrown.")
     static void p20_noFilterAheadOfNoIndex() {
-        edges.refused(Edges.NO_SUCH, Scenes::filters, 20, (x, index) -> x.product(20, 0, index),
-                Edges.outside(0, 5));
-        edges.refused(Edges.NO_SUCH, Scenes::filters, 0, (x, index) -> x.product(0, 0, index), Edges.outside(0, 5));
+        edges.refused(ByPromise.NO_SUCH, Scenes::filters, 20, (x, index) -> x.product(20, 0, index),
+                ByPromise.outside(0, 5));
+        edges.refused(ByPromise.NO_SUCH, Scenes::filters, 0, (x, index) -> x.product(0, 0, index),
+                ByPromise.outside(0, 5));
     }
 
+    @Says("If several exceptions apply, the one that is listed first is thrown.")
     static void p20_noAnswerAheadOfNoIndex() {
-        edges.refused(Edges.NO_SUCH, Scenes::filters, 20, (x, index) -> x.product(0, 2, index),
-                Edges.outside(0, 5));
-        edges.refused(Edges.NO_SUCH, Scenes::filters, 20, (x, index) -> x.product(0, -1, index),
-                Edges.outside(0, 5));
+        edges.refused(ByPromise.NO_SUCH, Scenes::filters, 20, (x, index) -> x.product(0, 2, index),
+                ByPromise.outside(0, 5));
+        edges.refused(ByPromise.NO_SUCH, Scenes::filters, 20, (x, index) -> x.product(0, -1, index),
+                ByPromise.outside(0, 5));
     }
 
+    @Says({
+        "Returns a sample of the product row of a filter and an answer.",
+        "Returns the sample."})
     static void p20_theLastFilterAndTheLastAnswer() {
         EchoChamber x = Scenes.answers(40);
         for (int i = 0; i < 19; i++) {
@@ -400,27 +458,31 @@ public final class FilterEdgesTest {
 
     // Promise 21: rightSamples
 
+    @Says("Throws `IndexOutOfBoundsException` if there is no such filter or answer")
     static void p21_noSuchFilter() {
         edges.noSuchFilter((x, filter) -> x.rightSamples(filter, 0));
     }
 
+    @Says("Throws `IndexOutOfBoundsException` if there is no such filter or answer")
     static void p21_noSuchAnswer() {
         for (int answers : new int[] {1, 39, 40}) {
-            edges.refused(Edges.NO_SUCH, Scenes::answers, answers, (x, answer) -> x.rightSamples(0, answer),
-                    Edges.outside(0, answers - 1));
+            edges.refused(ByPromise.NO_SUCH, Scenes::answers, answers, (x, answer) -> x.rightSamples(0, answer),
+                    ByPromise.outside(0, answers - 1));
         }
     }
 
     static void p21_noFilterAndNoAnswer() {
-        edges.refused(Edges.NO_SUCH, Scenes::filters, 20, (x, both) -> x.rightSamples(both, both), -1, 20);
+        edges.refused(ByPromise.NO_SUCH, Scenes::filters, 20, (x, both) -> x.rightSamples(both, both), -1, 20);
     }
 
+    @Says("Returns how many samples of the product row of a filter and an ..")
     static void p21_noneIfTheFirstIsWrong() {
         EchoChamber x = undoing(1, 0, 0, 0);
         x.measure(0, 1, -1, 0, 0, 0);
         edges.due("right samples", x.rightSamples(0, 1), 0);
     }
 
+    @Says("Returns how many samples of the product row of a filter and an ..")
     static void p21_thoseAheadOfTheFirstWrongOne() {
         EchoChamber x = undoing(1, 0, 0, 0);
         x.measure(0, 1, 1, 1, 0, 0);
@@ -431,6 +493,7 @@ public final class FilterEdgesTest {
         }
     }
 
+    @Says("Returns the number of samples, 6 if all are.")
     static void p21_allSixOfItsOwnAndOfAnEqualAnswer() {
         EchoChamber x = undoing(-1, -9, 9, -9);
         x.measure(0, 1, -1, -9, 9, -9);
@@ -450,15 +513,20 @@ public final class FilterEdgesTest {
 
     // Promise 22: isChecked
 
+    @Says("Throws `IndexOutOfBoundsException` if there is no such filter")
     static void p22_noSuchFilter() {
         edges.noSuchFilter((x, filter) -> x.isChecked(filter));
     }
 
+    @Says("Tells whether the product row of a filter and its own answer is as it should be.")
     static void p22_theLastOfTwentyFilters() {
         edges.due("first", Scenes.filters(20).isChecked(0), true);
         edges.due("last", Scenes.filters(20).isChecked(19), true);
     }
 
+    @Says({
+        "Tells whether the product row of a filter and its own answer is as it should be.",
+        "Returns true if so."})
     static void p22_filtersOfTheLeastAndTheGreatestSamples() {
         for (int signs = 0; signs < 16; signs++) {
             EchoChamber x = undoing(1 - (signs & 1) * 2, 9 - (signs >> 1 & 1) * 18, 9 - (signs >> 2 & 1) * 18,
@@ -467,6 +535,7 @@ public final class FilterEdgesTest {
         }
     }
 
+    @Says("Tells whether the product row of a filter and its own answer is as it should be.")
     static void p22_aBarredFilterIsCheckedToo() {
         edges.due("state", inOtherState(1).isChecked(0), true);
         edges.due("latest", notTheLatest(1).isChecked(0), true);
@@ -475,6 +544,7 @@ public final class FilterEdgesTest {
 
     // Promise 23: setLimit
 
+    @Says("Returns the limit before.")
     static void p23_limitsFrom0To999AreTaken() {
         EchoChamber x = Scenes.filters(1);
         edges.due("at first", x.setLimit(0), 24);
@@ -482,8 +552,9 @@ public final class FilterEdgesTest {
         edges.due("the greatest", x.setLimit(999), 999);
     }
 
+    @Says("Throws `IllegalArgumentException` if it is not between 0 and 999")
     static void p23_otherLimitsAreRefused() {
-        edges.refused(Edges.BAD, Scenes::filters, 2, (x, limit) -> x.setLimit(limit), Edges.outside(0, 999));
+        edges.refused(ByPromise.BAD, Scenes::filters, 2, (x, limit) -> x.setLimit(limit), ByPromise.outside(0, 999));
     }
 
     static void p23_aRefusedLimitLeavesTheOneBefore() {
@@ -498,24 +569,31 @@ public final class FilterEdgesTest {
 
     // Promise 24: usable
 
+    @Says("Returns the number of filters.")
     static void p24_noneWithoutFilters() {
         edges.due("without rooms", new EchoChamber().usable(), 0);
         edges.due("with answers", Scenes.filters(0).usable(), 0);
     }
 
+    @Says({
+        "Returns the number of filters of which a use is not barred.",
+        "Returns the number of filters."})
     static void p24_allOfTwenty() {
         edges.due("usable", Scenes.filters(20).usable(), 20);
     }
 
+    @Says("Returns the number of filters of which a use is not barred.")
     static void p24_noneOfTwenty() {
         edges.due("state", inOtherState(20).usable(), 0);
         edges.due("age", tooOld(20).usable(), 0);
     }
 
+    @Says("Returns the number of filters of which a use is not barred.")
     static void p24_halfOfTwenty() {
         edges.due("latest", notTheLatest(20).usable(), 10);
     }
 
+    @Says("Returns the number of filters of which a use is not barred.")
     static void p24_anAgeOfTheLimitIsUsable() {
         EchoChamber x = Scenes.filters(20);
         x.setLimit(2);

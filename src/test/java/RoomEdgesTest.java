@@ -1,6 +1,6 @@
 /** The edges of promises 1 to 7, and of the terms ahead of them. */
 public final class RoomEdgesTest {
-    private static final Edges edges = new Edges(new Check("RoomEdgesTest"));
+    private static final ByPromise edges = new ByPromise(new Check("RoomEdgesTest"));
 
     public static void main(String[] args) {
         edges.runAll(RoomEdgesTest.class, 0, 7);
@@ -8,6 +8,7 @@ public final class RoomEdgesTest {
 
     // The terms
 
+    @Says("An object is used for at most 512 calls after it has been made; ..")
     static void p00_theLastOf512CallsIsAnswered() {
         EchoChamber x = new EchoChamber();
         x.addRoom();
@@ -41,6 +42,7 @@ public final class RoomEdgesTest {
         edges.due("changes", x.changes(3), 3);
     }
 
+    @Says("Two states differ in as many parts as are not the same, up to 3.")
     static void p00_statesDifferInNoneToAllThreeParts() {
         for (int parts = 0; parts < 8; parts++) {
             EchoChamber x = Scenes.rooms(4);
@@ -53,6 +55,9 @@ public final class RoomEdgesTest {
 
     // Promise 1: A new object
 
+    @Says({
+        "Creates a laboratory without rooms, at the hour 0.",
+        "The hour is 0 at first, and 9999 is the last one."})
     static void p01_theHourIs0() {
         edges.due("hour", new EchoChamber().hour(), 0);
     }
@@ -67,20 +72,21 @@ public final class RoomEdgesTest {
         edges.due("bookings that begin", new EchoChamber().pass(48), 0);
     }
 
+    @Says("Creates a laboratory without rooms, at the hour 0.")
     static void p01_thereAreNoRooms() {
         int[] rooms = {0, 1, 3, -1, Integer.MIN_VALUE, Integer.MAX_VALUE};
-        edges.refused(Edges.NO_SUCH, Scenes::rooms, 0, (x, room) -> x.curtains(room), rooms);
-        edges.refused(Edges.NO_SUCH, Scenes::rooms, 0, (x, room) -> x.measure(room, 0, 1, 0, 0, 0), rooms);
-        edges.refused(Edges.NO_SUCH, Scenes::rooms, 0, (x, room) -> x.book(room, 0, 0, false, 1, 1), rooms);
+        edges.refused(ByPromise.NO_SUCH, Scenes::rooms, 0, (x, room) -> x.curtains(room), rooms);
+        edges.refused(ByPromise.NO_SUCH, Scenes::rooms, 0, (x, room) -> x.measure(room, 0, 1, 0, 0, 0), rooms);
+        edges.refused(ByPromise.NO_SUCH, Scenes::rooms, 0, (x, room) -> x.book(room, 0, 0, false, 1, 1), rooms);
         edges.due("first room", new EchoChamber().addRoom(), 0);
     }
 
     static void p01_thereAreNoAnswersFiltersAndBookings() {
         int[] numbers = {0, 1, -1};
-        edges.refused(Edges.NO_SUCH, Scenes::rooms, 0, (x, answer) -> x.sample(answer, 0), numbers);
-        edges.refused(Edges.NO_SUCH, Scenes::rooms, 0, (x, answer) -> x.makeFilter(answer), numbers);
-        edges.refused(Edges.NO_SUCH, Scenes::rooms, 0, (x, filter) -> x.use(filter, 0), numbers);
-        edges.refused(Edges.NO_SUCH, Scenes::rooms, 0, (x, booking) -> x.cancel(booking), numbers);
+        edges.refused(ByPromise.NO_SUCH, Scenes::rooms, 0, (x, answer) -> x.sample(answer, 0), numbers);
+        edges.refused(ByPromise.NO_SUCH, Scenes::rooms, 0, (x, answer) -> x.makeFilter(answer), numbers);
+        edges.refused(ByPromise.NO_SUCH, Scenes::rooms, 0, (x, filter) -> x.use(filter, 0), numbers);
+        edges.refused(ByPromise.NO_SUCH, Scenes::rooms, 0, (x, booking) -> x.cancel(booking), numbers);
     }
 
     static void p01_objectsShareNothing() {
@@ -95,6 +101,9 @@ public final class RoomEdgesTest {
 
     // Promise 2: addRoom
 
+    @Says({
+        "Adds a room.",
+        "Returns the number of the room."})
     static void p02_fourRoomsAreAdded() {
         EchoChamber x = new EchoChamber();
         for (int i = 0; i < 4; i++) {
@@ -102,8 +111,11 @@ public final class RoomEdgesTest {
         }
     }
 
+    @Says({
+        "Throws `IllegalStateException` if there are 4 rooms",
+        "At most 4 rooms have the numbers 0 to n - 1 in the order in which .."})
     static void p02_aFifthRoomIsRefused() {
-        edges.refused(Edges.STATE, Scenes::rooms, 4, (x, none) -> x.addRoom(), 4);
+        edges.refused(ByPromise.STATE, Scenes::rooms, 4, (x, none) -> x.addRoom(), 4);
     }
 
     static void p02_aRefusedRoomIsNotThereAndIsRefusedAgain() {
@@ -114,6 +126,9 @@ public final class RoomEdgesTest {
         edges.due("room 3", x.seats(3), 6);
     }
 
+    @Says({
+        "Adds a room.",
+        "A state consists of curtains from 0 to 3, seats from 0 to 9, and .."})
     static void p02_aNewRoomHasTheLeastStateWhateverTheOthersHave() {
         EchoChamber x = Scenes.rooms(3);
         x.setState(2, 3, 9, true);
@@ -127,6 +142,7 @@ public final class RoomEdgesTest {
 
     // Promise 3: setState
 
+    @Says("Throws `IndexOutOfBoundsException` if there is no such room")
     static void p03_noSuchRoom() {
         edges.noSuchRoom((x, room) -> x.setState(room, 1, 1, true));
     }
@@ -146,9 +162,12 @@ public final class RoomEdgesTest {
         }
     }
 
+    @Says({
+        "Throws `IllegalArgumentException` if the curtains are not between ..",
+        "A state consists of curtains from 0 to 3, seats from 0 to 9, and .."})
     static void p03_otherCurtainsAreRefused() {
-        edges.refused(Edges.BAD, Scenes::rooms, 4, (x, curtains) -> x.setState(3, curtains, 6, true),
-                Edges.outside(0, 3));
+        edges.refused(ByPromise.BAD, Scenes::rooms, 4, (x, curtains) -> x.setState(3, curtains, 6, true),
+                ByPromise.outside(0, 3));
     }
 
     static void p03_seats0To9AreTaken() {
@@ -159,27 +178,35 @@ public final class RoomEdgesTest {
         }
     }
 
+    @Says({
+        "Throws `IllegalArgumentException` if the curtains are not between ..",
+        "A state consists of curtains from 0 to 3, seats from 0 to 9, and .."})
     static void p03_otherSeatsAreRefused() {
-        edges.refused(Edges.BAD, Scenes::rooms, 4, (x, seats) -> x.setState(3, 3, seats, true),
-                Edges.outside(0, 9));
+        edges.refused(ByPromise.BAD, Scenes::rooms, 4, (x, seats) -> x.setState(3, 3, seats, true),
+                ByPromise.outside(0, 9));
     }
 
     static void p03_curtainsAndSeatsAreNotTakenForEachOther() {
-        edges.refused(Edges.BAD, Scenes::rooms, 1, (x, seats) -> x.setState(0, seats, 3, true), 9, 6, 5, 4);
+        edges.refused(ByPromise.BAD, Scenes::rooms, 1, (x, seats) -> x.setState(0, seats, 3, true), 9, 6, 5, 4);
     }
 
+    @Says("If several exceptions apply, the one that is listed first is thrown.")
     static void p03_noRoomAheadOfABadState() {
-        edges.refused(Edges.NO_SUCH, Scenes::rooms, 0, (x, bad) -> x.setState(0, bad, bad, true), -1, 10);
-        edges.refused(Edges.NO_SUCH, Scenes::rooms, 4, (x, bad) -> x.setState(4, bad, 0, true), -1, 4);
-        edges.refused(Edges.NO_SUCH, Scenes::rooms, 4, (x, bad) -> x.setState(-1, 0, bad, true), -1, 10);
+        edges.refused(ByPromise.NO_SUCH, Scenes::rooms, 0, (x, bad) -> x.setState(0, bad, bad, true), -1, 10);
+        edges.refused(ByPromise.NO_SUCH, Scenes::rooms, 4, (x, bad) -> x.setState(4, bad, 0, true), -1, 4);
+        edges.refused(ByPromise.NO_SUCH, Scenes::rooms, 4, (x, bad) -> x.setState(-1, 0, bad, true), -1, 10);
     }
 
     // Promises 4 to 7: curtains, seats, areOpen, changes
 
+    @Says("Throws `IndexOutOfBoundsException` if there is no such room")
     static void p04_noSuchRoom() {
         edges.noSuchRoom((x, room) -> x.curtains(room));
     }
 
+    @Says({
+        "Returns the curtains of a room.",
+        "Returns the curtains."})
     static void p04_eachOfFourRooms() {
         EchoChamber x = Scenes.rooms(4);
         for (int room = 0; room < 4; room++) {
@@ -187,10 +214,14 @@ public final class RoomEdgesTest {
         }
     }
 
+    @Says("Throws `IndexOutOfBoundsException` if there is no such room")
     static void p05_noSuchRoom() {
         edges.noSuchRoom((x, room) -> x.seats(room));
     }
 
+    @Says({
+        "Returns the seats of a room.",
+        "Returns the seats."})
     static void p05_eachOfFourRooms() {
         EchoChamber x = Scenes.rooms(4);
         for (int room = 0; room < 4; room++) {
@@ -198,10 +229,14 @@ public final class RoomEdgesTest {
         }
     }
 
+    @Says("Throws `IndexOutOfBoundsException` if there is no such room")
     static void p06_noSuchRoom() {
         edges.noSuchRoom((x, room) -> x.areOpen(room));
     }
 
+    @Says({
+        "Tells whether the doors of a room are open.",
+        "Returns true if so."})
     static void p06_eachOfFourRooms() {
         EchoChamber x = Scenes.rooms(4);
         for (int room = 0; room < 4; room++) {
@@ -209,10 +244,14 @@ public final class RoomEdgesTest {
         }
     }
 
+    @Says("Throws `IndexOutOfBoundsException` if there is no such room")
     static void p07_noSuchRoom() {
         edges.noSuchRoom((x, room) -> x.changes(room));
     }
 
+    @Says({
+        "Returns how many changes a room has counted.",
+        "Returns the number of changes."})
     static void p07_eachOfFourRooms() {
         EchoChamber x = Scenes.rooms(4);
         int[] changes = {1, 3, 2, 3};

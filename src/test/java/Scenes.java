@@ -71,6 +71,28 @@ final class Scenes {
         return x;
     }
 
+    /** As many rooms, answers, filters and bookings as there may be, at this hour; bookings begin at the hour 5. */
+    static EchoChamber full(int hour) {
+        EchoChamber x = new EchoChamber();
+        for (int i = 0; i < 4; i++) {
+            x.addRoom();
+            x.setState(i, i, 9 - i, i % 2 == 1);
+        }
+        for (int i = 0; i < 40; i++) {
+            x.measure(i % 4, i / 4, i % 3 == 0 ? -1 : 1, i % 10, -(i % 7), i % 5);
+        }
+        for (int i = 0; i < 20; i++) {
+            x.makeFilter(2 * i);
+            x.use(i, 10 * i);
+        }
+        for (int i = 0; i < 16; i++) {
+            x.book(i % 4, 1, 2, true, 10 * (i / 4) + 5, 10 * (i / 4) + 7);
+        }
+        x.cancel(15);
+        passTo(x, hour);
+        return x;
+    }
+
     static void passTo(EchoChamber x, int hour) {
         for (int left = hour - x.hour(); left > 0; left -= 48) {
             x.pass(left < 48 ? left : 48);

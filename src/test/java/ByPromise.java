@@ -5,8 +5,8 @@ import java.util.TreeMap;
 import java.util.TreeSet;
 import java.util.function.IntFunction;
 
-/** Runs tests of edges: methods named p, the number of the promise that they test (0 the terms), and what is due. */
-final class Edges {
+/** Runs tests by promise: methods named p, the number of the promise that they test (0 the terms), and what is due. */
+final class ByPromise {
     static final Class<IndexOutOfBoundsException> NO_SUCH = IndexOutOfBoundsException.class;
     static final Class<IllegalArgumentException> BAD = IllegalArgumentException.class;
     static final Class<IllegalStateException> STATE = IllegalStateException.class;
@@ -21,7 +21,7 @@ final class Edges {
     private final Check check;
     private String test = "";
 
-    Edges(Check check) {
+    ByPromise(Check check) {
         this.check = check;
     }
 
@@ -38,7 +38,7 @@ final class Edges {
             promises.add(Integer.valueOf(method.getName().substring(1, 3)));
         }
         for (int i = firstPromise; i <= lastPromise; i++) {
-            check.due("promise " + i + " has a test of an edge", promises.contains(i), true);
+            check.due("promise " + i + " has a test", promises.contains(i), true);
         }
         check.end();
     }
